@@ -1291,7 +1291,8 @@ public final class WalkingBus {
             int good = floor;
             int bad = bell + 1;
             for (int step = 0; step < LAST_MINUTE && bad - good > 1; step++) {
-                int m = (good + bad) / 2;
+                // Most orders do no better than the floor: that is asked first.
+                int m = step == 0 ? good + 1 : (good + bad) / 2;
                 walk(town, corner, m);
                 if (minutes.casesBehind(bell) * 100 <= minutes.cases * h) {
                     good = m;
