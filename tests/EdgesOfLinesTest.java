@@ -361,6 +361,11 @@ public final class EdgesOfLinesTest {
         slow.ready(0, 60);
         late(slow, 3, 3, 0, 179, 1, 1 << 12);
         late(slow, 3, 3, 0, 180, 0, 1);
+        // There at 12, and nine more for each of twelve that is shut: a wait until 60 takes up five of them.
+        order(slow, 6, 0);
+        late(slow, 3, 0, 0, 119, 1, 1 << 12);
+        late(slow, 3, 0, 0, 120, 0, 1);
+        late(slow, 3, 0, 0, 60, (4096 - 1 - 12 - 66 - 220 - 495 - 792) / 2, 2048);
         WalkingBus far = Due.town("n7;0130c99;1230c99;2330c99;3430c99;4530c99;5630c99;s0");
         far.child(1, 0, 4, 60);
         far.child(1, 6, 4, 60);
@@ -446,6 +451,17 @@ public final class EdgesOfLinesTest {
         Due.is("15 on one order, 9 on the other", x.start(3, 3, 99, 0), 81);
         Due.is("16 on one order, 8 on the other", x.start(3, 4, 99, 0), STATE);
         Due.is("10 on the only order", x.start(2, 2, 99, 0), 99 - 20);
+        // Of all 24 orders the last one alone has more than 15.
+        WalkingBus last = Due.town("n7;432c11;123c11;541c11;054c11;613c11;064c11;423c11;s2");
+        for (int corner : new int[] {0, 1, 3, 6}) {
+            last.child(0, corner, 9, 0);
+        }
+        order(last, 6, 3, 1, 0);
+        Due.is("the last order", last.late(15, 3, 0, 200, 1, 0, 0, 4, 1), LOST);
+        order(last, 6, 3, 0, 1);
+        Due.is("the last but one", last.late(15, 3, 0, 200, 1, 0, 0, 4, 1), 1);
+        Due.is("any of them", last.start(15, 3, 200, 100), STATE);
+        Due.is("three of the gates", last.start(7, 3, 200, 100), 200);
     }
 
     /** A child at each of five corners, or so many children at four. */

@@ -374,6 +374,11 @@ public final class EdgesOfStreetsTest {
         WalkingBus six = Due.town("n7;062;011c11;121c11;231c11;341c11;451c11;561c11;s0");
         Due.is("three by corner 6, five by the others", six.way(0, 5, 0), 3);
         Due.is("four by either, with the fewer crossings by corner 6", six.way(0, 4, 1), 2);
+        for (int mid = 0; mid < 7; mid++) {
+            int from = (mid + 3) % 7;
+            int to = (mid + 5) % 7;
+            along(Due.town("n7;" + from + mid + "1;" + to + mid + "1;s0"), from, to, 0, 1);
+        }
         Due.sentence(4, "of several ways the one of the fewest CROSSINGS");
         along(Due.town("n3;024c11;012;122;s0"), 0, 2, 1, 2);
         along(Due.town("n3;012c11;122;024;s0"), 0, 2, 2);
