@@ -1350,8 +1350,14 @@ public final class WalkingBus {
                 fill(rope, loop + 1, left, friendRows);
                 return;
             }
+            int open = rope.mayCome(loop, left);
+            if (rope.isCounting && loop == rope.loops - 1) {
+                // Only one is left for the last loop, so it need not be tried.
+                rope.found += Integer.bitCount(open);
+                return;
+            }
             for (int x = 0; x < MOST_CHILDREN; x++) {
-                if ((left >> x & 1) != 0 && rope.maySit(x, loop)) {
+                if ((open >> x & 1) != 0) {
                     rope.loopOf[loop] = x;
                     int more = isBeside(loop) ? rope.friends[x] & rope.bitAt(loop - 1) : 0;
                     fill(rope, loop + 1, left & ~(1 << x), friendRows + Integer.bitCount(more));
@@ -1360,7 +1366,6 @@ public final class WalkingBus {
         }
 
         private void take(int friendRows) {
-            found++;
             if (friendRows > mostFriends) {
                 mostFriends = friendRows;
                 for (int k = 0; k < loops; k++) {
@@ -1375,12 +1380,14 @@ public final class WalkingBus {
             return Integer.bitCount(open & withFriends) / 2;
         }
 
-        private boolean maySit(int x, int loop) {
-            if (!isBeside(loop) && (oldEnough >> x & 1) == 0) {
-                return false;
-            }
-            int near = isBeside(loop) ? bitAt(loop - 1) | bitAt(loop - 2) : bitAt(loop - 2);
-            return (quarrels[x] & near) == 0;
+        /** Who of those left may be in a loop: who quarrels with whom is told by both. */
+        private int mayCome(int loop, int left) {
+            int open = isBeside(loop) ? left & ~quarrelsAt(loop - 1) : left & oldEnough;
+            return open & ~quarrelsAt(loop - 2);
+        }
+
+        private int quarrelsAt(int loop) {
+            return loop >= 0 && loop < loops && loopOf[loop] >= 0 ? quarrels[loopOf[loop]] : 0;
         }
 
         /** The odd loops are by the houses, each beside the loop before it. */
